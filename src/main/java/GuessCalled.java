@@ -518,12 +518,13 @@ public final class GuessCalled {
         int before = now.guessed;
         int fault = sheet.faultAsLane(lane);
         int came = 0;
-        while (came < n && fault == 0) {
-            fault = sheet.faultAtBoth(f + 2 * came);
+        for (int i = 0; i < n && fault == 0; i++) {
+            int at = f + 2 * i;
+            fault = sheet.faultAtBoth(at);
             if (fault == 0) {
-                if (guess(sheet.cells[f + 2 * came], sheet.cells[f + 2 * came + 1]) < 0) {
+                if (guess(sheet.cells[at], sheet.cells[at + 1]) < 0) {
                     now.guessed = before;
-                    return REFUSED_BASE - came;
+                    return REFUSED_BASE - i;
                 }
                 came++;
             }

@@ -166,6 +166,9 @@ public final class PromiseTest {
         dueFault("12", 2, 0);
         dueFault("  nam a 1;", 2, 2);
         dueFault("names a 1;", 2, 0);
+        dueFault("xame a 1;", 2, 0);
+        dueFault("naxe a 1;", 2, 0);
+        dueFault("near xong 1;", 2, 5);
         dueFault("abcdefghijk", 2, 0);
         dueFault("name", 2, 4);
         dueFault("name  ", 2, 6);
@@ -484,6 +487,12 @@ public final class PromiseTest {
         }
         due(22, "next(2)", x.next(2), BAD);
         due(23, "sure(2)", x.sure(2), BAD);
+        x.law(0, 0);
+        due(24, "mean(2), the likeliest", x.mean(2), 3);
+        x.odd(0, 9);
+        due(24, "mean(0), other odds of the first", x.mean(0), 2);
+        due(24, "mean(1), other odds of the first", x.mean(1), 1);
+        due(24, "mean(2), other odds of the first", x.mean(2), 0);
         x.guess(3, 2);
         due(22, "next(0), one can be", x.next(0), 3);
         due(22, "next(1), one can be", x.next(1), 0);
@@ -561,6 +570,23 @@ public final class PromiseTest {
         }
     }
 
+    /** Neither the first name can be, nor does it part the others. */
+    private static void rowWithoutTheFirst() {
+        GuessCalled x = told("name zzz 1;name ab 1;name cd 1;name ef 1;near letters 0;");
+        x.hear(0, 25, false);
+        due(22, "next(0)", x.next(0), 1);
+        due(22, "next(1)", x.next(1), 2);
+        due(23, "sure(1)", x.sure(1), 1);
+        due(27, "row(1, 0)", x.row(1, 0), 2);
+        due(27, "row(1, 10)", x.row(1, 10), 1);
+        due(27, "row(2, 0)", x.row(2, 0), 1);
+        due(27, "row(2, 10)", x.row(2, 10), 1);
+        due(27, "row(2, 11)", x.row(2, 11), 2);
+        due(27, "row(3, 0)", x.row(3, 0), 1);
+        due(27, "row(3, 10), a guess that parts none", x.row(3, 10), 0);
+        due(27, "row(3, 12)", x.row(3, 12), 2);
+    }
+
     private static void twins() {
         GuessCalled x = told(FIVE);
         due(28, "twins()", x.twins(), 4);
@@ -608,6 +634,17 @@ public final class PromiseTest {
         y.mix(5, 6);
         due(29, "meant()", y.meant(), 19);
         due(31, "more(0), though pairs are full", y.more(0), 2);
+        GuessCalled first = told("name tk 1;name kt 1;name kk 1;name ak 1;maid kk;");
+        due(31, "more(0), the first name too", first.more(0), 26 * 10 + 19);
+        due(31, "more(1), the first name too", first.more(1), 3);
+        first.mix(10, 19);
+        due(30, "slips(0), at the first place", first.slips(0), 1);
+        due(30, "slips(1), at the last place", first.slips(1), 1);
+        due(31, "more(0)", first.more(0), 10);
+        due(31, "more(1)", first.more(1), 4);
+        GuessCalled alone = told("name ab 1;name cd 1;maid ac;");
+        due(31, "more(0), the first name alone", alone.more(0), 26 + 2);
+        due(31, "more(1), the first name alone", alone.more(1), 1);
         GuessCalled none = told("name a 1;");
         due(29, "meant(), nothing written", none.meant(), 0);
         due(30, "slips(0), nothing written", none.slips(0), NONE);
@@ -822,6 +859,7 @@ public final class PromiseTest {
         nextSureMean();
         guessesThatCanNotBe();
         lawsAndRows();
+        rowWithoutTheFirst();
         twins();
         maid();
         play();
