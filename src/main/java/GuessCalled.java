@@ -516,11 +516,11 @@ public final class GuessCalled {
         }
         Sheet sheet = sheets[k];
         int before = now.guessed;
-        int fault = sheet.faultAsLane(lane);
+        int fault = 0;
         int came = 0;
         for (int i = 0; i < n && fault == 0; i++) {
             int at = f + 2 * i;
-            fault = sheet.faultAtBoth(at);
+            fault = sheet.faultOfGuessAt(at, lane);
             if (fault == 0) {
                 if (guess(sheet.cells[at], sheet.cells[at + 1]) < 0) {
                     now.guessed = before;
@@ -1276,11 +1276,6 @@ public final class GuessCalled {
             cells[i] = lane == BYTES ? (byte) v : lane == SHORTS ? (short) v : v;
         }
 
-        /** Nothing may be taken as of any lane; it is only missed at a cell. */
-        private int faultAsLane(int asLane) {
-            return lane == NOTHING || lane == asLane ? 0 : CAST_FAULT;
-        }
-
         private int faultAt(int i) {
             if (lane == NOTHING) {
                 return NULL_FAULT;
@@ -1288,7 +1283,11 @@ public final class GuessCalled {
             return within(i, 0, size - 1) ? 0 : INDEX_FAULT;
         }
 
-        private int faultAtBoth(int i) {
+        /** Asked for each guess, so that a read of none finds no fault, not even of the lane. */
+        private int faultOfGuessAt(int i, int asLane) {
+            if (lane != NOTHING && lane != asLane) {
+                return CAST_FAULT;
+            }
             int fault = faultAt(i);
             return fault != 0 ? fault : faultAt(i + 1);
         }

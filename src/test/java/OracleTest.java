@@ -729,10 +729,10 @@ public final class OracleTest {
             int came = 0;
             int found = 0;
             try {
-                byte[] b = lane == 0 ? (byte[]) sheets[k] : null;
-                short[] s = lane == 1 ? (short[]) sheets[k] : null;
-                int[] v = lane == 2 ? (int[]) sheets[k] : null;
                 for (; came < n; came++) {
+                    byte[] b = lane == 0 ? (byte[]) sheets[k] : null;
+                    short[] s = lane == 1 ? (short[]) sheets[k] : null;
+                    int[] v = lane == 2 ? (int[]) sheets[k] : null;
                     int i = f + 2 * came;
                     int called = lane == 0 ? b[i] : lane == 1 ? s[i] : v[i];
                     int answer = lane == 0 ? b[i + 1] : lane == 1 ? s[i + 1] : v[i + 1];

@@ -822,8 +822,7 @@ public final class PromiseTest {
         due(38, "torn(), nothing", x.torn(), 1);
         due(37, "read(2, 1, 0, 0)", x.read(2, 1, 0, 0), 0);
         due(38, "torn(), nothing, and nothing is read of it", x.torn(), 0);
-        due(37, "read(1, 0, 0, 0)", x.read(1, 0, 0, 0), 0);
-        due(38, "torn(), taken as of another lane", x.torn(), 3);
+        readsOfNone(x);
         x.undo(0);
         x.lay(1, 6, 3);
         due(37, "read(1, 2, 2, 20)", x.read(1, 2, 2, 20), 3);
@@ -836,6 +835,21 @@ public final class PromiseTest {
         due(37, "read(1, 2, 0, 1), full", x.read(1, 2, 0, 1), -20);
         due(37, "read(1, 2, 8, 1), full, torn ahead", x.read(1, 2, 8, 1), 0);
         due(37, "count(0)", x.count(0), 9);
+    }
+
+    /** Sheet 1 has cells, sheet 2 has nothing, sheet 3 is a row of no cells: none is asked for one. */
+    private static void readsOfNone(GuessCalled x) {
+        x.sheet(3, 1, 0);
+        for (int k = 1; k <= 3; k++) {
+            for (int lane = 0; lane <= 2; lane++) {
+                due(37, "read(1, 2, -1, 1)", x.read(1, 2, -1, 1), 0);
+                due(38, "torn()", x.torn(), 2);
+                due(37, "read(" + k + ", " + lane + ", 0, 0)", x.read(k, lane, 0, 0), 0);
+                due(38, "torn(), no guess is read", x.torn(), 0);
+            }
+        }
+        due(37, "read(3, 0, 0, 1)", x.read(3, 0, 0, 1), 0);
+        due(38, "torn(), another lane ahead of no such cell", x.torn(), 3);
     }
 
     private static void counts() {
