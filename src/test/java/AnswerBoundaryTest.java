@@ -220,6 +220,7 @@ public final class AnswerBoundaryTest extends Boundaries {
         }
         refused(NONE_LEFT, "likely(0, 0)", y -> y.likely(0, 0), STATE);
         refused(NONE_LEFT, "likely(4, 1)", y -> y.likely(4, 1), STATE);
+        refused(NONE_HEARD, "likely(0, 0)", y -> y.likely(0, 0), STATE);
         refused(NEW, "likely(0, 0)", y -> y.likely(0, 0), BAD);
     }
 
@@ -243,6 +244,7 @@ public final class AnswerBoundaryTest extends Boundaries {
         due("lied(), nothing at all", new GuessCalled().lied(), NONE);
         due("lied(), busy", made(BUSY).lied(), NONE);
         due("lied(), none can be", made(NONE_LEFT).lied(), 3);
+        due("lied(), none can be by what was heard", made(NONE_HEARD).lied(), 0);
     }
 
     public static void main(String[] args) {

@@ -35,6 +35,7 @@ public final class SearchBoundaryTest extends Boundaries {
         for (int what = 0; what <= 1; what++) {
             int asked = what;
             refused(NONE_LEFT, "next(" + what + ")", y -> y.next(asked), STATE);
+            refused(NONE_HEARD, "next(" + what + ")", y -> y.next(asked), STATE);
             refused(NEW, "next(" + what + ")", y -> y.next(asked), STATE);
         }
     }
@@ -57,6 +58,7 @@ public final class SearchBoundaryTest extends Boundaries {
         for (int what = 0; what <= 1; what++) {
             int asked = what;
             refused(NONE_LEFT, "sure(" + what + ")", y -> y.sure(asked), STATE);
+            refused(NONE_HEARD, "sure(" + what + ")", y -> y.sure(asked), STATE);
             refused(NEW, "sure(" + what + ")", y -> y.sure(asked), STATE);
         }
     }
@@ -83,6 +85,10 @@ public final class SearchBoundaryTest extends Boundaries {
         two.odd(0, 9);
         due("mean(0), 13 by 11", two.mean(0), 13);
         due("mean(2)", two.mean(2), 0);
+        two.odd(0, 1);
+        two.odd(1, 9);
+        due("mean(0), 11 by 10, all odds are others", two.mean(0), 11);
+        due("mean(1), 11 by 10, all odds are others", two.mean(1), 10);
         of("Promise 24: BAD; STATE: none CAN BE.");
         for (int what : new int[] {MIN, -1, 3, MAX}) {
             refused(BUSY, "mean(" + what + ")", y -> y.mean(what), BAD);
@@ -90,6 +96,7 @@ public final class SearchBoundaryTest extends Boundaries {
         for (int what = 0; what <= 2; what++) {
             int asked = what;
             refused(NONE_LEFT, "mean(" + what + ")", y -> y.mean(asked), STATE);
+            refused(NONE_HEARD, "mean(" + what + ")", y -> y.mean(asked), STATE);
             refused(NEW, "mean(" + what + ")", y -> y.mean(asked), STATE);
         }
     }
@@ -116,6 +123,7 @@ public final class SearchBoundaryTest extends Boundaries {
         nine.guess(0, 2);
         due("best(1), none can be, but among all", nine.best(1), 6);
         of("Promise 25: 10 times its KIND and MEASURE, of several the least (what 0), in how many (1).");
+        dueBest("name oa 1;name u 1;name c 1;", 1);
         dueBest("name iooocuic 1;name dibcdbdd 1;name a 1;", 8);
         dueBest("name abaa 1;name aba 1;name ab 1;", 13);
         dueBest("name b 1;name abbba 1;name eaa 1;", 22);
@@ -180,6 +188,11 @@ public final class SearchBoundaryTest extends Boundaries {
         dueRows("name ab 1;name cd 1;name aa 1;name eee 1;near letters 1;", new int[][] {{2, 0}, {1, 0, 1}, {1, 0, 0, 1}});
         dueRows("name eee 1;name ab 1;name cd 1;name aa 1;name ffff 1;near letters 1;", new int[][] {{3, 1}, {2, 0, 1}, {1, 0, 1, 2}});
         dueRows("name aa 1;name ab 1;name da 1;name cd 1;name eee 1;name cb 1;near letters 1;", new int[][] {{3, 0}, {1, 0, 5}, {1, 0, 0, 5}});
+        GuessCalled later = told(LAST_TELLS_MOST);
+        due("row(1, 10), the last", later.row(1, 10), 4);
+        tell(later, NINE);
+        due("row(1, 0), behind another text", later.row(1, 0), 8);
+        due("row(1, 10), behind another text", later.row(1, 10), 0);
         of("Promise 27: BAD (also k no less than n)");
         int[][] bad = {
             {MIN, 0}, {-1, 0}, {0, 0}, {4, 0}, {MAX, 0}, {0, 10}, {4, 10}, {1, 11}, {1, 12}, {2, 12}, {3, 13},
@@ -192,6 +205,7 @@ public final class SearchBoundaryTest extends Boundaries {
         of("Promise 27: STATE: none CAN BE.");
         for (int[] row : rows) {
             refused(NONE_LEFT, "row(" + row[0] + ", " + row[1] + ")", y -> y.row(row[0], row[1]), STATE);
+            refused(NONE_HEARD, "row(" + row[0] + ", " + row[1] + ")", y -> y.row(row[0], row[1]), STATE);
         }
         refused(NEW, "row(1, 0)", y -> y.row(1, 0), STATE);
     }

@@ -32,6 +32,26 @@ public final class SheetBoundaryTest extends Boundaries {
         refused(NEW, "back(0), none kept", y -> y.back(0), STATE);
         refused(NEW, "back(1), none kept", y -> y.back(1), STATE);
         imageOfNothingAndOfAll();
+        whatAnImageIsNot();
+    }
+
+    /** Names, what she wrote, the tape, sheets, faults and the other image are as they were. */
+    private static void whatAnImageIsNot() {
+        GuessCalled x = told("name ab 1;name cd 2;maid xyz;");
+        x.keep(0);
+        tell(x, "?");
+        feedAll(x, LATER);
+        x.sheet(0, 2, 4);
+        x.read(0, 2, 4, 1);
+        due("back(0)", x.back(0), 0);
+        due("fault()", x.fault(), 1);
+        due("torn()", x.torn(), 2);
+        due("count(3)", x.count(3), LATER.length());
+        due("count(4)", x.count(4), 4);
+        due("rule(0)", x.rule(0), 2);
+        due("rule(4)", x.rule(4), 3);
+        due("count(2)", x.count(2), 1);
+        due("back(1)", x.back(1), STATE);
     }
 
     /** From full to nothing and back: each list is as it was, to its last place. */
@@ -245,6 +265,8 @@ public final class SheetBoundaryTest extends Boundaries {
             refused(ahead, "read, an answer below 0", x -> x.read(1, of, 38, 1), -20);
         }
         GuessCalled x = withSheetOfGuesses(2);
+        due("read of twenty, nine fit", x.read(1, 2, 0, 20), -29);
+        due("count(0)", x.count(0), 0);
         x.guess(0, 0);
         due("read of nine, eight fit", x.read(1, 2, 0, 9), -28);
         due("count(0)", x.count(0), 1);

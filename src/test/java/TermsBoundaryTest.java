@@ -7,7 +7,7 @@ public final class TermsBoundaryTest extends Boundaries {
             "name aaaaaaaa 1;name aaaaaaa 1;name zzza 1;name azzz 1;name bcdfghyw 1;name eiouaeio 1;name aeiouxyz 1;";
 
     private static void termsTheFirstThatFits() {
-        of("Terms: BAD -1, STATE -2, FULL -3, NONE -4 (there is none), the first that fits");
+        of("Terms: Answers: BAD -1 .. STATE -2 (as told), FULL -3, NONE -4 (there is none), the first that fits");
         refused(FILLED, "feed(128), full", x -> x.feed(128), BAD);
         refused(FILLED, "feed(-1), full", x -> x.feed(-1), BAD);
         refused(FILLED, "mix(3, 3), full", x -> x.mix(3, 3), BAD);
@@ -474,6 +474,111 @@ public final class TermsBoundaryTest extends Boundaries {
         }
     }
 
+    private static void termsGuessedAndHeard() {
+        of("Terms: GUESSED (9): a NAME, the ANSWER: 0 no, 1 near, 2 yes.");
+        GuessCalled x = told(NINE + "near long 0;");
+        int[] left = {0, 510, 1};
+        for (int answer = 0; answer <= 2; answer++) {
+            x.undo(0);
+            due("guess(0, " + answer + ")", x.guess(0, answer), 1);
+            due("can() by " + answer, x.can(), left[answer]);
+        }
+        for (int i = 2; i <= 9; i++) {
+            due("guess(0, 2)", x.guess(0, 2), i);
+        }
+        due("guess(0, 2), the 10th", x.guess(0, 2), FULL);
+        due("can()", x.can(), 1);
+        of("Terms: HEARD (6)");
+        GuessCalled y = new GuessCalled();
+        for (int i = 1; i <= 6; i++) {
+            due("hear(7, 25, true)", y.hear(7, 25, true), i);
+        }
+        due("hear(7, 25, true), the 7th", y.hear(7, 25, true), FULL);
+        due("count(1)", y.count(1), 6);
+    }
+
+    private static void termsFinding() {
+        of("Terms: It is LIKELY by its ODDS among all that CAN BE.");
+        GuessCalled x = told("name a 9;name b 1;name c 8;");
+        due("likely(1, 0)", x.likely(1, 0), 1);
+        due("likely(1, 1)", x.likely(1, 1), 18);
+        x.guess(0, 0);
+        due("likely(1, 1), two can be", x.likely(1, 1), 9);
+        x.guess(2, 0);
+        due("likely(1, 1), it alone can be", x.likely(1, 1), 1);
+        of("Terms: guess behind guess (any of the NAMES, each when the ANSWER to the one before is known) till the ANSWER is yes.");
+        GuessCalled y = told("name kkk 1;name kab 1;name kcd 2;name efg 3;name hij 1;near start 1;");
+        y.hear(1, 10, false);
+        due("can(), the first can not be", y.can(), 30);
+        due("sure(1), the first, which can not be", y.sure(1), 0);
+        due("next(0), the first, which can not be", y.next(0), 0);
+        due("row(1, 10), the first, which can not be", y.row(1, 10), 0);
+        of("Terms: SURELY in n: there is a way by which none of them takes more than n.");
+        due("sure(0)", y.sure(0), 3);
+        due("laws(1), one name", told("name a 1;").laws(1), 45);
+        due("laws(1), two names", told("name a 1;name b 1;").laws(1), 0);
+        due("laws(2), two names", told("name a 1;name b 1;").laws(2), 45);
+        of("Terms: THE MEAN: guesses that it takes, by ODDS.");
+        due("mean(0), 13 by 7", y.mean(0), 13);
+        due("mean(1), 13 by 7", y.mean(1), 7);
+        due("mean(0), 1 by 1", told("name a 9;").mean(0), 1);
+        of("Terms: A ROW of guesses told beforehand PARTS NAMES that would be answered unlike by it.");
+        due("row(1, 0), each is answered in its own way", told("name ab 1;name ac 1;name de 1;near letters 1;").row(1, 0), 1);
+        due("row(1, 0), no two others are answered unlike", told("name ab 1;name ac 1;name de 1;near letters 0;").row(1, 0), 2);
+    }
+
+    private static void termsMeant() {
+        of("Terms: MEANT can be a NAME by the maid, if it is as long as what she WROTE");
+        due("meant()", told("name a 1;name aa 1;name aaa 1;maid aa;").meant(), 2);
+        due("meant(), eight letters", told("name aaaaaaaa 1;name aaaaaaa 1;maid aaaaaaaa;").meant(), 1);
+        due("meant(), none written", told("name a 1;name aa 1;").meant(), 0);
+        of("Terms: and at each place has the same LETTER or one of a PAIR with it");
+        GuessCalled x = told("name aba 1;name abb 1;name bba 1;name acb 1;name cba 1;maid aba;pair b a;");
+        due("meant()", x.meant(), 7);
+        due("mix(1, 2)", x.mix(1, 2), 2);
+        due("meant(), not by two pairs at one place", x.meant(), 15);
+        due("part(0)", x.part(0), 2);
+        due("meant(), no pair", x.meant(), 1);
+        of("Terms: SLIPS are places that are unlike.");
+        due("slips(0)", x.slips(0), 0);
+        x.mix(0, 1);
+        due("slips(1), the last place", x.slips(1), 1);
+        due("slips(2), the first place", x.slips(2), 1);
+        x.mix(2, 1);
+        due("slips(3), two places by two pairs", x.slips(3), 2);
+    }
+
+    private static void termsSheets() {
+        of("Terms: SHEETS 0 to 3 are rows of BYTES (lane 0), SHORTS (1), INTS (2) with 0 to 40 CELLS, or nothing (at first).");
+        int[][] greatest = {{127, 128}, {32767, 32768}, {MAX, MAX}};
+        for (int lane = 0; lane < 3; lane++) {
+            GuessCalled x = told(NINE);
+            for (int k = 0; k < 4; k++) {
+                due("lay(" + k + ", 0, 0), nothing", x.lay(k, 0, 0), -11);
+                due("sheet(" + k + ", " + lane + ", 0)", x.sheet(k, lane, 0), 1);
+                due("lay(" + k + ", 0, 0), no cell", x.lay(k, 0, 0), -12);
+                due("sheet(" + k + ", " + lane + ", 40)", x.sheet(k, lane, 40), 1);
+                due("lay(" + k + ", 39, 0)", x.lay(k, 39, 0), 1);
+                due("lay(" + k + ", 40, 0)", x.lay(k, 40, 0), -12);
+                due("lay, the greatest", x.lay(k, 0, greatest[lane][0]), 1);
+                due("lay, one more", x.lay(k, 0, greatest[lane][1]), 1);
+                due("sheet(" + k + ", " + lane + ", 41)", x.sheet(k, lane, 41), BAD);
+            }
+        }
+        of("Terms: A FAULT is what the machine finds: 1 NULL (nothing), 2 INDEX, 3 CAST (another lane), 4 SIZE (below 0).");
+        GuessCalled x = told(NINE);
+        x.sheet(1, 1, 2);
+        int[][] reads = {{0, 0, 0, 1}, {0, 2, 99, 1}, {1, 1, -1, 2}, {1, 1, 1, 2}, {1, 1, 2, 2}, {1, 0, 0, 3}, {1, 2, 0, 3}, {1, 2, 2, 3}};
+        for (int[] r : reads) {
+            due("read(" + r[0] + ", " + r[1] + ", " + r[2] + ", 1)", x.read(r[0], r[1], r[2], 1), 0);
+            due("torn()", x.torn(), r[3]);
+        }
+        due("read(1, 1, 0, 1)", x.read(1, 1, 0, 1), 1);
+        due("torn()", x.torn(), 0);
+        due("sheet(0, 0, -1)", x.sheet(0, 0, -1), -14);
+        due("sheet(0, 0, 0)", x.sheet(0, 0, 0), 1);
+    }
+
     public static void main(String[] args) {
         termsTheFirstThatFits();
         termsWhatIsRefused();
@@ -487,7 +592,11 @@ public final class TermsBoundaryTest extends Boundaries {
         termsFaults();
         termsFaultsOfWhatIsTold();
         termsATextThatIsTaken();
+        termsGuessedAndHeard();
         termsCanBe();
+        termsFinding();
+        termsMeant();
+        termsSheets();
         end();
     }
 }

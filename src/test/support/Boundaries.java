@@ -28,6 +28,7 @@ class Boundaries {
     static final Ahead NEW = x -> { };
     static final Ahead BUSY = Boundaries::busy;
     static final Ahead NONE_LEFT = Boundaries::noneCanBe;
+    static final Ahead NONE_HEARD = Boundaries::noneByWhatWasHeard;
     static final Ahead FILLED = Boundaries::fill;
 
     private static String sentence = "";
@@ -106,6 +107,11 @@ class Boundaries {
         busy(x);
         x.guess(0, 2);
         x.guess(0, 0);
+    }
+
+    private static void noneByWhatWasHeard(GuessCalled x) {
+        busy(x);
+        x.hear(0, 25, true);
     }
 
     /** As many as may be of all that is counted. */
